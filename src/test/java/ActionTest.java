@@ -328,6 +328,14 @@ public final class ActionTest {
             check.due("lorries again with " + k + " left", left + 3, () -> x.about(5));
         }
         check.throwing("the oldest are forgotten", Check.STATE, x::undo);
+        for (int k = 1; k <= 15; k++) {
+            x.set(5, k);
+        }
+        check.throwing("a refused action", Check.ARGUMENT, () -> x.set(5, 21));
+        for (int k = 13; k >= 0; k--) {
+            x.undo();
+        }
+        check.due("the oldest of 14 states, after a refused action", 1, () -> x.about(5));
         x.set(5, 3);
         check.due("nothing became different, yet it was an action", 0, x::undo);
         x.set(5, 1);

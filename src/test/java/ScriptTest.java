@@ -52,7 +52,7 @@ public final class ScriptTest {
         commands(x, true, 1001, 1050, 1010);
         commands(x, false, 1000, 1051, 1099, 1101, 1901);
         commands(x, true, 2000, 2004, 2101, 2105);
-        commands(x, false, 2005, 2100, 2006, 2014, 2200, 2900);
+        commands(x, false, 2005, 2100, 2006, 2010, 2014, 2200, 2900);
         commands(x, true, 3001, 3006, 3109);
         commands(x, false, 3000, 3007, 3011, 3100, 3201);
         commands(x, true, 4000);
@@ -60,7 +60,7 @@ public final class ScriptTest {
         commands(x, true, 5001, 5005, 5505);
         commands(x, false, 5000, 5006, 5601, 5011);
         commands(x, true, 6000, 6002, 6501);
-        commands(x, false, 6003, 6600, 6011);
+        commands(x, false, 6003, 6600, 6010, 6011);
         commands(x, true, 7000, 7010, 7020);
         commands(x, false, 7021, 7099, 7100, 7920);
         commands(x, true, 8001, 8099);
@@ -68,6 +68,11 @@ public final class ScriptTest {
         commands(x, true, 9307, 9399, 9507);
         commands(x, false, 9306, 9300, 9600, 9999);
         commands(x, false, 0, 1, 999, 900);
+        x.set(5, 0);
+        commands(x, true, 7000, 7001, 7020);
+        RoadDust y = Check.loaded("R100000000000h00");
+        commands(y, true, 8099, 9999, 9900);
+        commands(y, false, 8999, 8199);
     }
 
     private static void promise27Groups() {
@@ -169,6 +174,17 @@ public final class ScriptTest {
         return 10000 * complaints + Math.min(9999, sum);
     }
 
+    /** Some complaints, and perhaps one liter in the tank of the wagon 0. */
+    private static void begin(RoadDust x, boolean emptied) {
+        x.pass(3);
+        x.set(7, 90);
+        if (emptied && x.about(2) > 0) {
+            x.spray(0, 9);
+            x.spray(0, 9);
+            x.spray(0, 1);
+        }
+    }
+
     private static void promise28AsActions() {
         String[] roads = {"R010", "R010h00w0", "R0201h15h09w0w1", "R100120120120h33h50h99h05w0w5w9f3"};
         for (String road : roads) {
@@ -176,9 +192,9 @@ public final class ScriptTest {
                 long start = seed * 1000003L;
                 int m = (int) (seed + 21) % 25 + 1;
                 RoadDust x = Check.loaded(road);
-                x.set(7, 90);
+                begin(x, seed % 2 == 0);
                 RoadDust y = Check.loaded(road);
-                y.set(7, 90);
+                begin(y, seed % 2 == 0);
                 String before = Check.seen(x);
                 long want = byActions(y, start, m);
                 check.due(road + ": simulate " + start + " " + m, want, () -> x.simulate(start, m));

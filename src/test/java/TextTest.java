@@ -10,6 +10,7 @@ public final class TextTest {
         promise4Counts();
         promise5Load();
         promise5LoadForgets();
+        promise5LoadAfterTrials();
         check.end();
     }
 
@@ -197,5 +198,24 @@ public final class TextTest {
         x.pass(1);
         check.throwing("load of a spoilt text again", Check.STATE, x::load);
         check.due("a load that throws keeps the remembered states", 0, x::undo);
+    }
+
+    private static void promise5LoadAfterTrials() {
+        RoadDust x = Check.loaded("R102222222222h00h10h20h30w1w2w3f9");
+        x.set(7, 1);
+        x.set(8, 0);
+        x.setLimit(3, 5);
+        x.spray(0, 9);
+        x.pass(17);
+        x.clearText();
+        Check.type(x, "R03100h10h21w0w1");
+        String fresh = Check.seen(Check.loaded("R03100h10h21w0w1"));
+        for (int k = 0; k < 2; k++) {
+            x.simulate(9L, 15);
+            x.runScript(4, 3009400030097020L);
+            check.due("load after trials", 3, x::load);
+            check.that("trials leave nothing behind", fresh.equals(Check.seen(x)));
+            x.pass(13);
+        }
     }
 }
