@@ -18,6 +18,7 @@ public final class ActionTest {
         theRankEndsAtFour();
         promise19Undo();
         undoTakesEachActionBack();
+        undoneHouseIsBuiltAnew();
         refusedCallsChangeNothing();
         check.end();
     }
@@ -347,24 +348,38 @@ public final class ActionTest {
     }
 
     private static void undoTakesEachActionBack() {
+        RoadDust x = busy();
+        takesBack(x, () -> x.addHouse(2, 3), () -> x.addWagon(2), () -> x.setSurface(0, 2));
+        RoadDust y = busy();
+        takesBack(y, () -> y.setLimit(1, 1), () -> y.set(6, 9), () -> y.drive(1, 2));
+        RoadDust z = busy();
+        takesBack(z, () -> z.spray(1, 9), () -> z.fill(0), () -> z.pass(7));
+    }
+
+    /** A road with two remembered states. */
+    private static RoadDust busy() {
         RoadDust x = Check.loaded("R03012h00w0w1");
         x.spray(0, 5);
         x.pass(3);
-        String[] before = new String[10];
-        Runnable[] actions = {
-            () -> x.addHouse(2, 3), () -> x.addWagon(2), () -> x.setSurface(0, 2), () -> x.setLimit(1, 1),
-            () -> x.set(6, 9), () -> x.drive(1, 2), () -> x.spray(1, 9), () -> x.fill(0), () -> x.pass(7),
-            () -> x.set(8, 1)};
+        return x;
+    }
+
+    private static void takesBack(RoadDust x, Runnable... actions) {
+        String[] before = new String[actions.length];
         for (int k = 0; k < actions.length; k++) {
             before[k] = Check.seen(x);
             actions[k].run();
-            check.that("action " + k + " changes the state", !before[k].equals(Check.seen(x)));
+            check.that("action " + k + " changes nothing", !before[k].equals(Check.seen(x)));
         }
         for (int k = actions.length - 1; k >= 0; k--) {
             int left = k + 2;
             check.due("undo of action " + k, left, x::undo);
-            check.that("action " + k + " is taken back", before[k].equals(Check.seen(x)));
+            check.that("action " + k + " is not taken back", before[k].equals(Check.seen(x)));
         }
+    }
+
+    private static void undoneHouseIsBuiltAnew() {
+        RoadDust x = busy();
         x.addHouse(0, 0);
         x.pass(5);
         x.undo();

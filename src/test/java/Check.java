@@ -9,8 +9,30 @@ final class Check {
     static final Class<IllegalStateException> STATE = IllegalStateException.class;
 
     private int wrong;
+    private int made;
+    /** The sentence that is being tested, as the reports begin with it. */
+    private String place = "";
+
+    /**
+     * Runs the test of one sentence of the document, in the words in which the document says it: of the promise of
+     * this number, or of what stands before the promises, if it is 0. What is wrong is told with the promise and the
+     * words.
+     */
+    void sentence(int promise, String words, Runnable test) {
+        place = Document.heading(promise) + ", \"" + words + "\": ";
+        that("the document does not say this there", Document.quoted(promise, words));
+        int before = made;
+        try {
+            test.run();
+        } catch (RuntimeException e) {
+            report("the test ended by " + e);
+        }
+        that("nothing was tested", made > before);
+        place = "";
+    }
 
     void due(String what, long want, Call call) {
+        made++;
         long got;
         try {
             got = call.answer();
@@ -24,12 +46,13 @@ final class Check {
     }
 
     void throwing(String what, Class<? extends RuntimeException> want, Call call) {
+        made++;
         long got;
         try {
             got = call.answer();
         } catch (RuntimeException e) {
-            // A class below the one that is due would be the machine's own exception.
-            if (e.getClass() != want) {
+            // A class below the one that is due, or one that the library threw, would be the machine's own exception.
+            if (e.getClass() != want || !e.getStackTrace()[0].getClassName().startsWith("RoadDust")) {
                 report(what + " threw " + e + ", due is " + want.getName());
             }
             return;
@@ -38,6 +61,7 @@ final class Check {
     }
 
     void that(String what, boolean holds) {
+        made++;
         if (!holds) {
             report(what);
         }
@@ -53,7 +77,7 @@ final class Check {
 
     private void report(String line) {
         wrong++;
-        System.out.println(line);
+        System.out.println(place + line);
     }
 
     static void type(RoadDust x, String text) {
@@ -75,23 +99,26 @@ final class Check {
         return x;
     }
 
-    /** Everything that the document lets one see of the state, in one line. */
+    /** Everything that the document lets one see of the state, in one line; it takes some 20 to 150 calls. */
     static String seen(RoadDust x) {
         StringBuilder line = new StringBuilder();
+        int segments = x.about(0);
+        int houses = x.about(1);
+        int wagons = x.about(2);
         for (int what = 0; what <= 12; what++) {
             line.append(x.about(what)).append(' ');
         }
-        for (int s = 0; s < x.about(0); s++) {
+        for (int s = 0; s < segments; s++) {
             for (int what = 0; what <= 6; what++) {
                 line.append(x.segment(s, what)).append(' ');
             }
         }
-        for (int i = 0; i < x.about(1); i++) {
+        for (int i = 0; i < houses; i++) {
             for (int what = 0; what <= 4; what++) {
                 line.append(x.house(i, what)).append(' ');
             }
         }
-        for (int w = 0; w < x.about(2); w++) {
+        for (int w = 0; w < wagons; w++) {
             for (int what = 0; what <= 2; what++) {
                 line.append(x.wagon(w, what)).append(' ');
             }

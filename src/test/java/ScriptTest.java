@@ -123,19 +123,11 @@ public final class ScriptTest {
         check.due("no houses again", 0, () -> x.simulate(Long.MAX_VALUE, 1));
     }
 
-    private static int chance(long x) {
-        return (int) (x >>> 33);
-    }
-
-    private static long next(long x) {
-        return x * 6364136223846793005L + 1442695040888963407L;
-    }
-
     private static void promise28ByHand() {
         long[] seeds = {0L, 1L, -1L, 5L, Long.MIN_VALUE, Long.MAX_VALUE, 123456789L};
         for (long seed : seeds) {
             RoadDust x = Check.loaded("R010h00");
-            int r = chance(next(seed));
+            int r = Simulation.chance(Simulation.next(seed));
             int dust = r % 21 * 3 * 3;
             long want = (dust >= 50 ? 10000 : 0) + dust;
             check.due("simulate " + seed + " 1", want, () -> x.simulate(seed, 1));
@@ -143,35 +135,6 @@ public final class ScriptTest {
         RoadDust far = Check.loaded("R0200h10");
         far.set(7, 200);
         check.that("the sum is cut at 9999", far.simulate(3L, 99) % 10000 == 9999);
-    }
-
-    /** The same hours as actions on another object. */
-    private static long byActions(RoadDust x, long seed, int m) {
-        long state = seed;
-        long sum = 0;
-        long complaints = 0;
-        for (int hour = 0; hour < m; hour++) {
-            state = next(state);
-            int r = chance(state);
-            x.set(5, r % 21);
-            x.set(6, r / 32 % 10);
-            if (x.about(2) > 0) {
-                int w = r / 512 % x.about(2);
-                int s = r / 2048 % x.about(0);
-                int liters = x.wagon(w, 1);
-                if (liters > 0) {
-                    if (Math.abs(s - x.wagon(w, 0)) <= x.wagon(w, 2)) {
-                        x.drive(w, s);
-                    }
-                    if (x.wagon(w, 2) > 0) {
-                        x.spray(w, Math.min(5, liters));
-                    }
-                }
-            }
-            complaints += x.pass(1);
-            sum += x.about(1) > 0 ? x.house(0, 4) : 0;
-        }
-        return 10000 * complaints + Math.min(9999, sum);
     }
 
     /** Some complaints, and perhaps one liter in the tank of the wagon 0. */
@@ -196,7 +159,7 @@ public final class ScriptTest {
                 RoadDust y = Check.loaded(road);
                 begin(y, seed % 2 == 0);
                 String before = Check.seen(x);
-                long want = byActions(y, start, m);
+                long want = Simulation.answer(y, start, m);
                 check.due(road + ": simulate " + start + " " + m, want, () -> x.simulate(start, m));
                 check.that(road + ": simulate changes nothing", before.equals(Check.seen(x)));
             }
