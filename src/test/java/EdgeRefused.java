@@ -307,25 +307,37 @@ final class EdgeRefused {
             String want = everything(refused.road.get());
             check.that(refused.name + " changes something", want.equals(everything(x)));
         }
-        remembered("the oldest of 14 states", x -> x.pass(0), ARGUMENT);
-        remembered("the oldest of 14 states", x -> x.addHouse(4, 0), INDEX);
-        remembered("the oldest of 14 states", x -> x.drive(0, 4), INDEX);
-        remembered("the oldest of 14 states", x -> x.set(9, 0), ARGUMENT);
-        remembered("the oldest of 14 states", x -> x.restore(0), STATE);
-        remembered("the oldest of 14 states", x -> x.load(), STATE);
+        for (int actions : new int[] {13, 14, 15, 16, 29}) {
+            remembered(actions, ARGUMENT, x -> x.pass(0));
+            remembered(actions, INDEX, x -> x.addHouse(4, 0));
+            remembered(actions, INDEX, x -> x.addWagon(-1));
+            remembered(actions, ARGUMENT, x -> x.setSurface(0, 3));
+            remembered(actions, ARGUMENT, x -> x.setLimit(0, 6));
+            remembered(actions, ARGUMENT, x -> x.set(9, 0));
+            remembered(actions, INDEX, x -> x.drive(0, 0));
+            remembered(actions, INDEX, x -> x.spray(0, 1));
+            remembered(actions, INDEX, x -> x.fill(0));
+            remembered(actions, STATE, x -> x.restore(0));
+            remembered(actions, STATE, x -> x.load());
+        }
     }
 
-    private void remembered(String what, ToIntFunction<RoadDust> call, Class<? extends RuntimeException> thrown) {
+    /** A call that is refused twice behind so many actions leaves all of the remembered states as they are. */
+    private void remembered(int actions, Class<? extends RuntimeException> thrown, ToIntFunction<RoadDust> call) {
         RoadDust x = new RoadDust();
-        for (int k = 1; k <= 14; k++) {
-            x.set(5, k == 10 ? 0 : k);
+        for (int k = 1; k <= actions; k++) {
+            x.set(8, 40 + k);
         }
-        check.throwing("a call behind 14 actions", thrown, () -> call.applyAsInt(x));
-        for (int k = 13; k >= 0; k--) {
-            int left = k;
-            check.due("remembered states", left, x::undo);
+        check.throwing("a call behind " + actions + " actions", thrown, () -> call.applyAsInt(x));
+        check.throwing("again behind " + actions + " actions", thrown, () -> call.applyAsInt(x));
+        int most = Math.min(14, actions);
+        for (int k = 1; k <= most; k++) {
+            int left = most - k;
+            int right = 40 + actions - k;
+            check.due("undo of " + actions + " actions", left, x::undo);
+            check.due("the water right then", right, () -> x.about(8));
         }
-        check.due(what, 10, () -> x.about(5));
+        check.throwing("undo beyond " + actions + " actions", STATE, x::undo);
     }
 
     /** All that one can learn of an object, save slots, text and remembered states included; it is spent then. */

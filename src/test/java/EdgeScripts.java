@@ -1,3 +1,4 @@
+import java.math.BigInteger;
 import java.util.function.LongPredicate;
 
 /** The boundary cases of the promises 27 and 28: scripts and simulations. */
@@ -11,6 +12,8 @@ final class EdgeScripts {
 
     void run() {
         check.sentence(27, "n: number of commands, 1 to 4", this::leastAndMostCommands);
+        check.sentence(27, "A script has 1 to 4 commands; each is a group of four decimal digits d1 to d4,",
+            this::groupsOfFour);
         check.sentence(27, "script: the commands, a number of at most 4 * n digits (0 or more)", this::digits);
         check.sentence(27, "the first command is the highest group of the number (with zeros before it, if it has fewer "
             + "digits).", this::highestGroupFirst);
@@ -41,6 +44,8 @@ final class EdgeScripts {
         check.sentence(28, "m: number of hours, 1 to 99", this::leastAndMostHours);
         check.sentence(28, "seed: any long", this::anySeed);
         check.sentence(28, "Simulates m hours on a copy of the state.", this::simulatedOnACopy);
+        check.sentence(28, "x is first replaced by x * 6364136223846793005L + 1442695040888963407L (with long overflow), "
+            + "and r = (int) (x >>> 33) is computed.", this::overflow);
         check.sentence(28, "L becomes r % 21, the sun r / 32 % 10;", this::lorriesAndSun);
         check.sentence(28, "if there are wagons, and wagon r / 512 % (number of wagons) has liters,", this::whichWagon);
         check.sentence(28, "it drives to segment r / 2048 % S, if it has so many moves (otherwise it stays where it is),",
@@ -67,6 +72,16 @@ final class EdgeScripts {
         for (int n : new int[] {0, 5}) {
             check.throwing(n + " commands", Check.ARGUMENT, () -> x.runScript(n, 1001L));
         }
+    }
+
+    private void groupsOfFour() {
+        RoadDust x = Check.loaded("R100000000000h00w0w9");
+        good(x, 1, 2108L);
+        good(x, 2, 20019999L);
+        good(x, 3, 900021058000L);
+        good(x, 4, 3109100120049910L);
+        bad(x, 2, 90000210L);
+        check.due("a digit that is missing moves the others", 0, () -> x.runScript(2, 2001999L));
     }
 
     private void digits() {
@@ -238,6 +253,8 @@ final class EdgeScripts {
         good(x, 1, 7020L);
         bad(x, 1, 7021L);
         bad(x, 1, 7099L);
+        good(x, 3, 700070007020L);
+        bad(x, 2, 70007021L);
         good(x, 3, 700010509000L);
         // 180 come, and 135 lie.
         good(x, 3, 702010019014L);
@@ -455,6 +472,33 @@ final class EdgeScripts {
         }
         // By hand: x becomes 1442695040888963407 and r 167951807, which is 21 * 7997705 + 2: two lorries raise 18.
         check.due("an hour of the seed 0", 18, () -> Check.loaded("R010h00").simulate(0L, 1));
+    }
+
+    /** What r is after so many hours, worked out without overflow: x is a number of 64 bits, and r its upper 31. */
+    private static int chanceOfHour(long seed, int hour) {
+        BigInteger factor = BigInteger.valueOf(6364136223846793005L);
+        BigInteger summand = BigInteger.valueOf(1442695040888963407L);
+        BigInteger x = BigInteger.valueOf(seed);
+        for (int k = 0; k < hour; k++) {
+            x = x.multiply(factor).add(summand).mod(BigInteger.ONE.shiftLeft(64));
+        }
+        return x.shiftRight(33).intValueExact();
+    }
+
+    private void overflow() {
+        int great = 0;
+        for (long seed : new long[] {0L, 1L, 2L, 3L, -1L, -2L, Long.MIN_VALUE, Long.MAX_VALUE, 1L << 62, -1L << 62}) {
+            long first = chanceOfHour(seed, 1) % 21 * 9;
+            check.due("the first hour of the seed " + seed, complaining((int) first),
+                () -> Check.loaded("R010h00").simulate(seed, 1));
+            RoadDust x = Check.loaded("R010h00");
+            x.set(7, 200);
+            long second = first * 3 / 4 + chanceOfHour(seed, 2) % 21 * 9;
+            long complaints = second >= 200 ? 1 : 0;
+            check.due("two hours of the seed " + seed, 10000 * complaints + first + second, () -> x.simulate(seed, 2));
+            great += chanceOfHour(seed, 1) >= 1 << 30 ? 1 : 0;
+        }
+        check.that("x is negative with none of the seeds, or with all", great > 0 && great < 10);
     }
 
     private void simulatedOnACopy() {

@@ -1,3 +1,5 @@
+import java.util.function.ToIntFunction;
+
 /** The boundary cases of the promises 1 to 5, of the road and of the text. */
 final class EdgeText {
     private static final int[] WILD = {Integer.MIN_VALUE, -9, -2, -1, 256, 257, 300, Integer.MAX_VALUE};
@@ -13,6 +15,7 @@ final class EdgeText {
         check.sentence(0, "An object is used for at most 512 calls after it has been made", this::manyCalls);
         check.sentence(0, "The constants: NONE = -9: There is no such result.", this::none);
         check.sentence(0, "The road has S segments, 1 to 10, numbered from 0, at first 4.", this::segments);
+        check.sentence(0, "A segment has a surface (0: gravel, 1: chippings, 2: paved; at first 0),", this::eachSurface);
         check.sentence(0, "a limit from 1 to 5 (at first 3), a rank from 0 to 4 (at first 0), dust from 0 to 999 (at "
             + "first 0) and water from 0 to 9 (at first 0)", this::firstSegments);
         check.sentence(0, "it is a filling place or not (at first only the segment 0 is one)", this::firstFillingPlace);
@@ -86,6 +89,23 @@ final class EdgeText {
         check.due(road + ": its last segment", 3, () -> x.segment(segments - 1, 1));
         check.throwing(road + ": the segment -1", Check.INDEX, () -> x.segment(-1, 1));
         check.throwing(road + ": the segment " + segments, Check.INDEX, () -> x.segment(segments, 1));
+    }
+
+    private void eachSurface() {
+        RoadDust x = new RoadDust();
+        check.due("at first", 0, () -> x.segment(3, 0));
+        RoadDust y = Check.loaded("R03012");
+        y.pass(1);
+        // 90, 60 and 30 come, and three quarters lie.
+        int[] dust = {67, 45, 22};
+        for (int s = 0; s < 3; s++) {
+            int t = s;
+            check.due("the surface " + t, t, () -> y.segment(t, 0));
+            check.due("the dust on the surface " + t, dust[t], () -> y.segment(t, 3));
+        }
+        check.throwing("below gravel", Check.ARGUMENT, () -> y.setSurface(0, -1));
+        check.throwing("above paved", Check.ARGUMENT, () -> y.setSurface(0, 3));
+        check.due("no surface 3 in a text", 3, () -> Check.errorIn("R013"));
     }
 
     private void firstSegments() {
@@ -490,6 +510,29 @@ final class EdgeText {
         check.due("what it got", 0, () -> x.house(0, 4));
         check.due("a new first wagon", 0, () -> x.addWagon(1));
         check.due("its liters", 20, () -> x.wagon(0, 1));
+        loadedAfterTrials(y -> y.simulate(9L, 99));
+        loadedAfterTrials(y -> y.runScript(4, 3009400090991050L));
+        loadedAfterTrials(y -> y.ahead(7, 20));
+        loadedAfterTrials(y -> y.complainsIn(7));
+        loadedAfterTrials(y -> y.bestSpray(1, 9));
+        loadedAfterTrials(RoadDust::dustiest);
+        loadedAfterTrials(RoadDust::errorPosition);
+    }
+
+    /** What was only tried out before a load is nowhere to be seen after it. */
+    private void loadedAfterTrials(ToIntFunction<RoadDust> trial) {
+        String text = "R0501201h49h00h31w3w1f2";
+        RoadDust x = Check.loaded(FULLEST);
+        x.set(7, 1);
+        x.spray(1, 9);
+        x.pass(17);
+        x.fill(1);
+        trial.applyAsInt(x);
+        x.clearText();
+        Check.type(x, text);
+        trial.applyAsInt(x);
+        check.due("load behind a trial", 5, x::load);
+        check.that("a trial is seen after a load", Check.seen(Check.loaded(text)).equals(Check.seen(x)));
     }
 
     private void loadForgets() {

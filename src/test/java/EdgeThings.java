@@ -13,6 +13,7 @@ final class EdgeThings {
         check.sentence(6, "what: 0: S; 1: the number of houses; 2: of wagons; 3: the day; 4: the hour; 5: L; 6: the "
             + "sun; 7: the bound; 8: the water right;", this::firstAndLastAbout);
         check.sentence(6, "9: the liters filled in on this day;", this::litersOfThisDay);
+        check.sentence(6, "10: all complaints so far;", this::allComplaints);
         check.sentence(6, "11: liters sprayed so far (also those that were lost);", this::lostLiters);
         check.sentence(6, "12: the dust of all segments", this::dustOfAll);
         check.sentence(7, "Throws IndexOutOfBoundsException if there is no such segment", this::noSuchSegment);
@@ -82,6 +83,20 @@ final class EdgeThings {
         check.due("in the last hour of this day", 10, () -> x.about(9));
         x.pass(1);
         check.due("in the first hour of the next one", 0, () -> x.about(9));
+    }
+
+    private void allComplaints() {
+        RoadDust x = Check.loaded("R0200h00h19");
+        check.due("none yet", 0, () -> x.about(10));
+        x.pass(2);
+        check.due("of the nearer house", 2, () -> x.about(10));
+        x.set(7, 1);
+        x.pass(1);
+        check.due("of both", 4, () -> x.about(10));
+        x.undo();
+        check.due("an hour taken back", 2, () -> x.about(10));
+        x.pass(10);
+        check.due("on the next day", 22, () -> x.about(10));
     }
 
     private void lostLiters() {
@@ -221,6 +236,14 @@ final class EdgeThings {
         for (int what = 2; what <= 3; what++) {
             int k = what;
             check.due("a house built later, " + k, 0, () -> x.house(1, k));
+        }
+        x.pass(2);
+        x.undo();
+        x.undo();
+        x.addHouse(0, 8);
+        for (int what = 2; what <= 4; what++) {
+            int k = what;
+            check.due("a house in the place of one that was taken back, " + k, 0, () -> x.house(1, k));
         }
         check.due("a house told in the text: its sum", 0, () -> Check.loaded("R010h00").house(0, 2));
         check.due("a house told in the text: its complaints", 0, () -> Check.loaded("R010h00").house(0, 3));
