@@ -1,11 +1,21 @@
+import java.io.IOException;
 import java.lang.reflect.Constructor;
 import java.lang.reflect.Field;
 import java.lang.reflect.Method;
 import java.lang.reflect.Modifier;
+import java.nio.file.Files;
+import java.nio.file.Path;
+import java.util.ArrayList;
+import java.util.List;
 import java.util.Set;
 import java.util.TreeSet;
+import java.util.regex.Matcher;
+import java.util.regex.Pattern;
 
-/** The public face, as the document gives it, and nothing beside it (rules 1, 5 and 11 of LANGUAGE.md). */
+/**
+ * The public face, as the document gives it, and nothing beside it (rules 1, 5 and 11 of LANGUAGE.md). It runs in the
+ * project's folder.
+ */
 public final class FaceTest {
     private static final Check check = new Check();
     private static final String I = " IndexOutOfBoundsException";
@@ -20,7 +30,7 @@ public final class FaceTest {
         "waterFor(int)" + I, "limitFor(int)" + I, "bestSpray(int,int)" + A + I, "complainsIn(int)" + I, "dustiest()",
         "runScript(int,long)" + A, "simulate(long,int)" + A, "save(int)" + I, "restore(int)" + S + I};
 
-    public static void main(String[] args) {
+    public static void main(String[] args) throws IOException {
         Set<String> due = new TreeSet<>(Set.of(FACE));
         Set<String> found = new TreeSet<>();
         Set<String> names = new TreeSet<>();
@@ -42,7 +52,33 @@ public final class FaceTest {
         for (Class<?> inside : RoadDust.class.getDeclaredClasses()) {
             inside(inside, names);
         }
+        asWritten();
         check.end();
+    }
+
+    /** The declarations in the source are those in the document, word by word and in its order. */
+    private static void asWritten() throws IOException {
+        String document = Files.readString(Path.of("../shared/DOC.md"));
+        Matcher face = Pattern.compile("(?s)## The public face\\s+```java\n(.*?)```").matcher(document);
+        check.that("the document has no face", face.find());
+        List<String> due = declarations(face.group(1));
+        List<String> found = declarations(Files.readString(Path.of("src/main/java/RoadDust.java")));
+        check.that("the document's face has " + due.size() + " lines", due.size() == FACE.length + 3);
+        for (int k = 0; k < Math.max(due.size(), found.size()); k++) {
+            String want = k < due.size() ? due.get(k) : "nothing";
+            String got = k < found.size() ? found.get(k) : "nothing";
+            check.that("declared is " + got + ", due is " + want, got.equals(want));
+        }
+    }
+
+    /** What begins with public, up to its body or its semicolon. */
+    private static List<String> declarations(String code) {
+        List<String> lines = new ArrayList<>();
+        Matcher m = Pattern.compile("(?m)^ *(public [^{;]*)[{;]").matcher(code);
+        while (m.find()) {
+            lines.add(m.group(1).trim().replaceAll("\\s+", " "));
+        }
+        return lines;
     }
 
     private static String signature(Method m) {

@@ -3,6 +3,7 @@ import java.nio.file.Files;
 import java.nio.file.Path;
 import java.util.ArrayList;
 import java.util.List;
+import java.util.Set;
 import java.util.regex.Matcher;
 import java.util.regex.Pattern;
 
@@ -14,6 +15,10 @@ public final class LanguageTest {
         "->", "::", "\\bimport\\b", "\\bpackage\\b", "\\btry\\b", "\\bcatch\\b", "\\bfinally\\b", "\\bsynchronized\\b",
         "\\bassert\\b", "\\bstatic\\s*\\{", "\\bprotected\\b", "\\bthrow\\s+(?!new\\b)", "\\bSystem\\.(?!arraycopy)",
         "\\w+Exact\\b", "\\bObject\\b", "\\bThread\\b", "\\bvar\\b", "@"};
+    /** The classes of the program and the ones of the library that it uses; rule 4 allows some more. */
+    private static final Set<String> CLASSES = Set.of("RoadDust", "Segment", "House", "Wagon", "Road", "History", "Text",
+        "Math", "IllegalArgumentException", "IllegalStateException", "IndexOutOfBoundsException");
+    private static final Set<String> FUNCTIONS = Set.of("Math.min", "Math.max", "Math.abs");
     private static final int LONGEST_METHOD = 60;
 
     public static void main(String[] args) throws IOException {
@@ -24,6 +29,9 @@ public final class LanguageTest {
             Matcher m = Pattern.compile(forbidden).matcher(code);
             check.that("forbidden: " + forbidden, !m.find());
         }
+        only(CLASSES, code, "\\b[A-Z]\\w*[a-z]\\w*");
+        only(FUNCTIONS, code, "\\bMath\\s*\\.\\s*\\w+");
+        check.that("texts joined by +", count(code, "\"\"\\s*\\+|\\+\\s*\"\"") == 0);
         check.that("more than 12 classes", count(code, "\\b(class|enum|interface|record)\\s+\\w+") <= 12);
         check.that("an exception that is not written out in full",
             count(code, "\\bthrow\\b") == count(code, "throw new (IllegalState|IllegalArgument|IndexOutOfBounds)Exception\\(\"\"\\);"));
@@ -38,6 +46,13 @@ public final class LanguageTest {
 
     private static long count(String code, String pattern) {
         return Pattern.compile(pattern).matcher(code).results().count();
+    }
+
+    private static void only(Set<String> allowed, String code, String pattern) {
+        Matcher m = Pattern.compile(pattern).matcher(code);
+        while (m.find()) {
+            check.that("not in the list of what the program uses: " + m.group(), allowed.contains(m.group()));
+        }
     }
 
     private static void methods(String code) {
